@@ -43,6 +43,7 @@ public final class PromiseTest {
         parsePositions();
         parseChanges();
         undo();
+        undoOfTests();
         whatDropsTests();
         whatSaves();
         digest();
@@ -322,6 +323,8 @@ public final class PromiseTest {
         for (int what : new int[] {-1, 6, LOWEST, HIGHEST}) {
             Check.refused("12: what " + what, x, ARGUMENT, () -> x.product(10, what));
         }
+        x.moveCarrier(0, 21, 30);
+        Check.due("12: behind a move", x.product(0, 4), 19);
         ChannelSpacer many = new ChannelSpacer();
         for (int i = 0; i < 10; i++) {
             many.addCarrier(28 + i, 60);
@@ -879,6 +882,35 @@ public final class PromiseTest {
         Check.due("37: diagnosis", y.diagnosis(), 1);
     }
 
+    /** The tests of a saved state stay what they were when others are kept behind them. */
+    private static void undoOfTests() {
+        ChannelSpacer x = tested();
+        x.setMember(0, 0, true);
+        x.addTest(2, 9, true);
+        x.addTest(0, 8, true);
+        Check.due("37: nothing fits the others", x.diagnoses(), 0);
+        x.undo();
+        x.undo();
+        x.undo();
+        int[][] due = {{3, 7, 1}, {1, 7, 0}};
+        for (int test = 0; test < 2; test++) {
+            for (int what = 0; what < 3; what++) {
+                Check.due("37: test(" + test + ", " + what + ") again", x.test(test, what), due[test][what]);
+            }
+        }
+        Check.due("37: diagnoses again", x.diagnoses(), 1);
+        Check.due("37: diagnosis again", x.diagnosis(), 1);
+        ChannelSpacer settings = three();
+        settings.setSpacing(3, 2);
+        settings.setProducts(3, 50, 60);
+        settings.setSpacing(0, 1);
+        settings.setProducts(0, 0, 0);
+        settings.undo();
+        settings.undo();
+        Check.due("37: settings", settings.digest(),
+                hash(0, 3, 50, 60, 3, 2, 3, 20, 30, 23, 20, 31, 0, 6, 4, 0, 0, 1, 0, 2));
+    }
+
     private interface Change {
         void on(ChannelSpacer x);
     }
@@ -897,6 +929,16 @@ public final class PromiseTest {
             x.undo();
             Check.due("tests are back, change " + i, x.size(2), 2);
             Check.due("tests are back, diagnoses, change " + i, x.diagnoses(), 1);
+        }
+        Change[] withoutCarriers = {x -> x.shift(7), x -> x.removeCarrier(0), ChannelSpacer::parse};
+        for (int i = 0; i < withoutCarriers.length; i++) {
+            ChannelSpacer bare = deskOf();
+            if (i == 1) {
+                bare.addCarrier(5, 5);
+            }
+            bare.addTest(0, 1, true);
+            withoutCarriers[i].on(bare);
+            Check.due("dropped tests without mixers, change " + i, bare.size(2), 0);
         }
         ChannelSpacer x = tested();
         x.append(120);
@@ -926,8 +968,8 @@ public final class PromiseTest {
         }
         Change[] questions = {
             ChannelSpacer::removal, x -> x.openings(5), x -> x.bestRuler(4), x -> x.rulers(4, 20), x -> x.bestTest(3),
-            x -> x.heard(3, 7), x -> x.certain(true), ChannelSpacer::diagnosis, ChannelSpacer::isClean, x -> x.fallout(3),
-            x -> x.product(0, 4), ChannelSpacer::digest, x -> x.leastSpan(5), ChannelSpacer::closest, x -> x.hitsOn(1),
+            x -> x.heard(3, 7), x -> x.certain(true), ChannelSpacer::diagnosis, ChannelSpacer::isClean,
+            x -> x.fallout(3), x -> x.product(0, 4), ChannelSpacer::digest, x -> x.leastSpan(5), ChannelSpacer::closest, x -> x.hitsOn(1),
         };
         ChannelSpacer x = tested();
         long before = x.digest();
@@ -953,6 +995,7 @@ public final class PromiseTest {
         even.append(65);
         even.append(65);
         // Kind 0: 0, 30, 10, 40 and 50 (2 * 10 - 30 is out of the band); kind 1: 0, 20, 40; kind 2: none is strong.
-        Check.due("38: hits and text", even.digest(), hash(2, 7, 2, 20, 0, 1, 3, 10, 1, 20, 2, 30, 3, 8, 3, 0, 0, 1, 0, 4));
+        Check.due("38: hits and text", even.digest(),
+                hash(2, 7, 2, 20, 0, 1, 3, 10, 1, 20, 2, 30, 3, 8, 3, 0, 0, 1, 0, 4));
     }
 }
