@@ -1,11 +1,5 @@
 /** Each promise of the document with answers that were worked out by hand, its edges, and wrong inputs. */
-public final class PromiseTest {
-    private static final Class<IllegalArgumentException> ARGUMENT = IllegalArgumentException.class;
-    private static final Class<IllegalStateException> STATE = IllegalStateException.class;
-    private static final Class<IndexOutOfBoundsException> INDEX = IndexOutOfBoundsException.class;
-    private static final int LOWEST = Integer.MIN_VALUE;
-    private static final int HIGHEST = Integer.MAX_VALUE;
-
+public final class PromiseTest extends Desks {
     private PromiseTest() {
     }
 
@@ -48,68 +42,6 @@ public final class PromiseTest {
         whatSaves();
         digest();
         Check.end();
-    }
-
-    // ---- desks to begin with
-
-    /** Carriers (channel, level) one behind the other. */
-    private static ChannelSpacer deskOf(int... pairs) {
-        ChannelSpacer x = new ChannelSpacer();
-        for (int i = 0; i + 1 < pairs.length; i += 2) {
-            x.addCarrier(pairs[i], pairs[i + 1]);
-        }
-        return x;
-    }
-
-    /** Products of the kind 0: 17, 9, 26, 15, 42, 39; of the kind 1: 12, 28, 34; of the kind 2: 14, 29, 7, 53, 47. */
-    private static ChannelSpacer three() {
-        return deskOf(20, 30, 23, 20, 31, 0);
-    }
-
-    private static ChannelSpacer ten() {
-        ChannelSpacer x = new ChannelSpacer();
-        for (int i = 0; i < 10; i++) {
-            x.addCarrier(i, i);
-        }
-        return x;
-    }
-
-    /** Two carriers and a mixer of both, whose products fall on the channels 7 and 16, with a test of each kind. */
-    private static ChannelSpacer tested() {
-        ChannelSpacer x = deskOf(10, 60, 13, 60);
-        x.addMixer(3);
-        x.addTest(3, 7, true);
-        x.addTest(1, 7, false);
-        return x;
-    }
-
-    private static void write(ChannelSpacer x, String text) {
-        x.clearText();
-        for (int i = 0; i < text.length(); i++) {
-            x.append(text.charAt(i));
-        }
-    }
-
-    private static int parsed(String text) {
-        ChannelSpacer x = new ChannelSpacer();
-        write(x, text);
-        return x.parse();
-    }
-
-    private static long bits(int... numbers) {
-        long set = 0;
-        for (int number : numbers) {
-            set |= 1L << number;
-        }
-        return set;
-    }
-
-    private static long hash(int... values) {
-        long h = 3067;
-        for (int v : values) {
-            h = 31 * h + v;
-        }
-        return h;
     }
 
     // ---- carriers
@@ -969,7 +901,8 @@ public final class PromiseTest {
         Change[] questions = {
             ChannelSpacer::removal, x -> x.openings(5), x -> x.bestRuler(4), x -> x.rulers(4, 20), x -> x.bestTest(3),
             x -> x.heard(3, 7), x -> x.certain(true), ChannelSpacer::diagnosis, ChannelSpacer::isClean,
-            x -> x.fallout(3), x -> x.product(0, 4), ChannelSpacer::digest, x -> x.leastSpan(5), ChannelSpacer::closest, x -> x.hitsOn(1),
+            x -> x.fallout(3), x -> x.product(0, 4), ChannelSpacer::digest, x -> x.leastSpan(5),
+            ChannelSpacer::closest, x -> x.hitsOn(1),
         };
         ChannelSpacer x = tested();
         long before = x.digest();
