@@ -26,6 +26,7 @@ public final class MixerEdgeTest extends Desks {
         noDiagnosis();
         bestDiagnosis();
         certainOnes();
+        certainOfAll();
         certainOfNone();
         bestTestAtTheEnds();
         bestTestSplitsBest();
@@ -390,6 +391,28 @@ public final class MixerEdgeTest extends Desks {
         Check.due("32: and 1 and 2 are bad", x.certain(true), 6);
         Check.due("30: the idle one is open", x.diagnoses(), 2);
         Check.due("32: so it is in neither", x.certain(true) | x.certain(false), 15);
+    }
+
+    /** The set of all mixers is a diagnosis as any other: none of them is bad in none then. */
+    private static void certainOfAll() {
+        ChannelSpacer one = mixed(3);
+        one.addTest(3, 17, true);
+        Check.due("32: the only one is bad", one.certain(true), 1);
+        Check.due("32: the only one is not good", one.certain(false), 0);
+        ChannelSpacer five = mixed(3, 5, 6, 7, 0);
+        five.addTest(3, 17, true);
+        five.addTest(5, 9, true);
+        five.addTest(6, 15, true);
+        Check.due("32: 7 or the first three", five.certain(true), 0);
+        five.addTest(7, 12, true);
+        Check.due("32: 7 is bad", five.certain(true), 8);
+        Check.due("32: all may be bad", five.certain(false), 0);
+        ChannelSpacer both = mixed(3, 5);
+        both.addTest(7, 17, true);
+        both.addTest(7, 9, true);
+        Check.due("30: both together alone", both.diagnoses(), 1);
+        Check.due("32: both are bad", both.certain(true), 3);
+        Check.due("32: none is good", both.certain(false), 0);
     }
 
     private static void certainOfNone() {

@@ -26,6 +26,8 @@ public final class ProductEdgeTest extends Desks {
         cleanAtTheSpacing();
         cleanAtTheGuard();
         cleanAtTheLevel();
+        cleanByEachKind();
+        cleanInAnyOrder();
         closestOfFewAndFar();
         nothingToRemove();
         removalPrefersFew();
@@ -390,6 +392,68 @@ public final class ProductEdgeTest extends Desks {
             x.setProducts(row[0], row[1], 0);
             Check.due("16: kind set " + row[0] + " with the loss " + row[1], x.isClean(), row[2] == 1);
         }
+    }
+
+    /** 10 + 22 - 12 hits 20, and so the other way round, but of the kinds 0 and 2 nothing; 3 * 20 - 2 * 24 hits 12. */
+    private static void cleanByEachKind() {
+        for (int kinds = 0; kinds <= 7; kinds++) {
+            boolean hasKind1 = kinds == 2 || kinds == 3 || kinds >= 6;
+            Check.due("16: by the kind 1, kind set " + kinds, loud(kinds, 10, 12, 20, 22).isClean(), !hasKind1);
+            Check.due("14: by the kind 1, kind set " + kinds, loud(kinds, 10, 12, 20, 22).hits(), hasKind1 ? 4 : 0);
+            Check.due("16: by the kind 2, kind set " + kinds, loud(kinds, 20, 24, 12).isClean(), kinds < 4);
+            Check.due("14: by the kind 2, kind set " + kinds, loud(kinds, 20, 24, 12).hits(), kinds < 4 ? 0 : 1);
+        }
+    }
+
+    /** Carriers of which one product alone, with the level 0, hits, and hits the last of them alone. */
+    private static void cleanInAnyOrder() {
+        onlyHit(new int[] {1, 179, 0}, new int[] {20, 60, 30, 59, 10, 0});
+        onlyHit(new int[] {2, 180, 0}, new int[] {10, 60, 22, 60, 12, 60, 20, 0});
+        onlyHit(new int[] {4, 0, 298}, new int[] {20, 60, 24, 59, 12, 0});
+        onlyHit(new int[] {4, 0, 298}, new int[] {20, 60, 10, 59, 40, 0});
+    }
+
+    private static void onlyHit(int[] settings, int[] pairs) {
+        int[] order = new int[pairs.length / 2];
+        onlyHit(settings, pairs, order, 0);
+    }
+
+    /** Tries all orders: the numbers before the place at are chosen. */
+    private static void onlyHit(int[] settings, int[] pairs, int[] order, int at) {
+        for (int next = 0; next < order.length && at < order.length; next++) {
+            boolean isFree = true;
+            for (int i = 0; i < at; i++) {
+                isFree &= order[i] != next;
+            }
+            if (isFree) {
+                order[at] = next;
+                onlyHit(settings, pairs, order, at + 1);
+            }
+        }
+        if (at == order.length) {
+            hitInOrder(settings, pairs, order);
+        }
+    }
+
+    private static void hitInOrder(int[] settings, int[] pairs, int[] order) {
+        ChannelSpacer x = new ChannelSpacer();
+        x.setProducts(settings[0], settings[1], settings[2]);
+        for (int i = 0; i + 1 < order.length; i++) {
+            x.addCarrier(pairs[2 * order[i]], pairs[2 * order[i] + 1]);
+        }
+        int channel = pairs[2 * order[order.length - 1]];
+        int level = pairs[2 * order[order.length - 1] + 1];
+        String what = " of the kind set " + settings[0] + " with the last one on " + channel;
+        Check.due("22: not open" + what, x.openings(level) >> channel & 1, 0);
+        x.addCarrier(channel, level);
+        Check.due("14: one hit" + what, x.hits(), 1);
+        Check.due("16: not clean" + what, x.isClean(), false);
+        Check.due("18: any one is enough" + what, x.removal(), 1);
+        x.setProducts(settings[0], settings[1] + 1, settings[2] + 1);
+        Check.due("11: no strong product" + what, x.products(), 0);
+        Check.due("16: clean with the level -1" + what, x.isClean(), true);
+        x.removeCarrier(order.length - 1);
+        Check.due("22: open with the level -1" + what, x.openings(level) >> channel & 1, 1);
     }
 
     // ---- 17

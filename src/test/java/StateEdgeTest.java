@@ -32,6 +32,7 @@ public final class StateEdgeTest extends Desks {
 
     public static void main(String[] args) {
         changesDropTests();
+        changesWithoutMixers();
         changesWithoutEffectCount();
         askingChangesNothing();
         refusedCallsDropNoTests();
@@ -42,6 +43,7 @@ public final class StateEdgeTest extends Desks {
         undoGoesBackOnly();
         undoOverAndOver();
         undoOfAFullDesk();
+        undoOfTests();
         undoLeavesTheText();
         savedCountInDigest();
         digestOfEachPart();
@@ -86,6 +88,23 @@ public final class StateEdgeTest extends Desks {
         tests.parse();
         tests.clearText();
         Check.due("36: an error drops no tests", tests.size(2), 2);
+    }
+
+    private static void changesWithoutMixers() {
+        for (int i = 0; i < DROPPING.length; i++) {
+            ChannelSpacer x = deskOf(10, 60, 13, 60);
+            if (i == 7) {
+                continue;
+            }
+            x.addTest(1, 1, true);
+            DROPPING[i].on(x);
+            Check.due("8: tests without mixers behind the change " + i, x.size(2), 0);
+        }
+        ChannelSpacer one = deskOf(10, 60);
+        one.addTest(1, 1, true);
+        one.removeCarrier(0);
+        Check.due("8: tests behind the only carrier", one.size(2), 0);
+        Check.due("30: and what they told", one.diagnoses(), 1);
     }
 
     private static void changesWithoutEffectCount() {
@@ -276,6 +295,24 @@ public final class StateEdgeTest extends Desks {
             Check.due("26: the last mixer", x.mixer(4), 63);
             Check.due("9: the last carrier", x.carrier(9, true), 9);
         }
+    }
+
+    /** Tests that were dropped, and others in their places, each other in every way. */
+    private static void undoOfTests() {
+        ChannelSpacer x = begun();
+        List<Long> before = Story.now(x);
+        x.setSpacing(0, 1);
+        x.addTest(0, 63, false);
+        x.addTest(3, 16, true);
+        Check.due("30: the others", x.diagnoses(), 2);
+        Check.due("37: two tests and the change", x.undo(), 3);
+        Check.due("28: one of the others stays", x.test(0, 1), 63);
+        x.undo();
+        x.undo();
+        Story.same("37: the first ones again", Story.now(x), before);
+        Check.due("28: heard", x.test(0, 2), 1);
+        Check.due("28: not heard", x.test(1, 2), 0);
+        Check.due("32: the mixer is bad again", x.certain(true), 1);
     }
 
     private static void undoLeavesTheText() {

@@ -11,6 +11,7 @@ public final class TextEdgeTest extends Desks {
         textEndsAt120();
         appendIsRefused();
         clearAndAppendAgain();
+        clearedBytesAreGone();
         textIsNotUndone();
         noItems();
         whatCanStandWhere();
@@ -90,6 +91,19 @@ public final class TextEdgeTest extends Desks {
         Check.due("34: the first again", x.append('m'), 1);
         Check.due("36: no old bytes behind it", x.parse(), -11);
         Check.due("35: one", x.clearText(), 1);
+    }
+
+    /** Behind the end of a text stand no bytes of the text before, whatever its length is. */
+    private static void clearedBytesAreGone() {
+        String text = "c12,34;c5,6;m0,1;m01;";
+        for (int length = 0; length <= text.length(); length++) {
+            ChannelSpacer x = new ChannelSpacer();
+            write(x, text);
+            x.parse();
+            write(x, text.substring(0, length));
+            Check.due("35: the first " + length + " bytes behind all of them", x.parse(),
+                    parsed(text.substring(0, length)));
+        }
     }
 
     private static void textIsNotUndone() {
