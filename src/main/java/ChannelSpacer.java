@@ -23,6 +23,8 @@ public final class ChannelSpacer {
     private static final int MOST_BYTE = 127;
     private static final int MOST_SAVED = 4;
     private static final int SYNTAX_ERROR = -10;
+    /** More than the 9,139 ways to put three marks between the ends of the widest ruler that is counted. */
+    private static final int EVERY_RULER = 10_000;
 
     private final Desk desk;
     private final Desk draft;
@@ -248,7 +250,7 @@ public final class ChannelSpacer {
         if (!isWithin(span, 0, MOST_SPAN)) {
             throw new IllegalArgumentException("span out of range");
         }
-        return countRulers(marks, span, Integer.MAX_VALUE);
+        return countRulers(marks, span, EVERY_RULER);
     }
 
     /** Returns the channels where one more carrier with a level could be put in, such that all would be clean. */

@@ -63,12 +63,24 @@ public final class FaceTest {
         "float", "double", "var", "protected", "static \\{", "\"\\s*\\+", "\\+\\s*\"", "instanceof", "@",
     };
 
+    /** What the program uses of the library beside its exceptions; all of it stands in the list of the language. */
+    private static final Set<String> LIBRARY =
+            Set.of("Integer.bitCount", "Math.abs", "Math.max", "Math.min", "System.arraycopy");
+    private static final int MOST_PARAMETERS = 7;
+    private static final int MOST_FIELDS = 20;
+    private static final int MOST_CLASSES = 12;
+    private static final int MOST_LINES = 60;
+
     private FaceTest() {
     }
 
     public static void main(String[] args) throws IOException {
         members();
         names();
+        sizes(ChannelSpacer.class);
+        for (Class<?> inner : ChannelSpacer.class.getDeclaredClasses()) {
+            sizes(inner);
+        }
         if (args.length == 0) {
             Check.complain("the path of the source is missing");
         } else {
@@ -144,6 +156,18 @@ public final class FaceTest {
         }
     }
 
+    private static void sizes(Class<?> one) {
+        int fields = 0;
+        for (Field f : one.getDeclaredFields()) {
+            fields += Modifier.isStatic(f.getModifiers()) ? 0 : 1;
+        }
+        Check.due(one + " has too many fields", fields > MOST_FIELDS, false);
+        Check.due(one + " has too many classes", one.getDeclaredClasses().length + 1 > MOST_CLASSES, false);
+        for (Method m : one.getDeclaredMethods()) {
+            Check.due(m + " has too many parameters", m.getParameterCount() > MOST_PARAMETERS, false);
+        }
+    }
+
     private static void source(String text) {
         String code = text.replaceAll("(?s)/\\*.*?\\*/", " ").replaceAll("//[^\n]*", " ");
         String bare = code.replaceAll("\"[^\"\n]*\"", "\"\"");
@@ -154,6 +178,8 @@ public final class FaceTest {
                 Check.complain("barred by the language: " + m.group());
             }
         }
+        library(bare);
+        lengths(text);
         String due = "new (IllegalArgument|IllegalState|IndexOutOfBounds)Exception\\(\"\"\\)";
         Matcher thrown = Pattern.compile("throw (?!" + due + ")").matcher(bare);
         Check.due("throws of another form", thrown.find(), false);
@@ -168,5 +194,30 @@ public final class FaceTest {
             assigned++;
         }
         Check.due("objects that are made elsewhere than in constructors", inConstructors, assigned);
+    }
+
+    private static void library(String bare) {
+        Set<String> used = new TreeSet<>();
+        Matcher m = Pattern.compile("\\b(?:Integer|Long|Math|System|Arrays|String|StringBuilder)\\.\\w+").matcher(bare);
+        while (m.find()) {
+            used.add(m.group());
+        }
+        used.removeAll(LIBRARY);
+        Check.due("library that the language does not list: " + used, used.size(), 0);
+    }
+
+    /** A method's head and its closing brace stand alone at the same depth, 4 within the class, 8 within an inner one. */
+    private static void lengths(String text) {
+        String[] lines = text.split("\n");
+        for (int from = 0; from < lines.length; from++) {
+            Matcher head = Pattern.compile("^( {4}| {8})[a-z][^=;]*\\(.*").matcher(lines[from]);
+            if (head.matches() && !lines[from].trim().matches("(if|for|while|switch|return)\\b.*")) {
+                int to = from;
+                while (to < lines.length - 1 && !lines[to].equals(head.group(1) + "}")) {
+                    to++;
+                }
+                Check.due("lines of" + lines[from] + " are too many", to - from + 1 > MOST_LINES, false);
+            }
+        }
     }
 }
